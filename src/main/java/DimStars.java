@@ -1375,10 +1375,9 @@ public final class DimStars {
                     look.in = in;
                     look.inTotal = inTotal;
                     long score = look.score();
-                    // one HOUR IN is one DIP at least, and a DIP has one at least
-                    boolean isOften = search.least <= 1 || in >= search.least;
-                    if (score > best.score && isOften
-                        && (search.least <= 1 || look.dips(beat, longs, first) >= search.least)) {
+                    // a DIP has an HOUR IN at least, so that few HOURS spare counting DIPS
+                    if (score > best.score && in >= search.least
+                        && look.dips(beat, longs, first) >= search.least) {
                         best.beat = beat;
                         best.longs = longs;
                         best.first = first;

@@ -95,6 +95,25 @@ public final class EdgesTest {
         Check.due("the world is gone", x.catches(0, 2), -1);
         Check.due("another world", x.world(0, 11, 5, 1, 5000, true), 1);
         Check.due("is not caught", x.catches(0, 1), 0);
+        imagesOfWorlds();
+    }
+
+    /** The same number may be another WORLD in another image. */
+    private static void imagesOfWorlds() {
+        DimStars x = oneStar("least 2");
+        x.image(0);
+        x.world(0, 10, 3, 1, 1, false);
+        x.image(1);
+        x.back(0);
+        x.world(0, 20, 5, 1, 1, true);
+        Check.due("the second one", x.room(0, 0), 26);
+        x.image(2);
+        x.back(1);
+        Check.due("the first one", x.room(0, 0), 14);
+        Check.due("it is real", x.catches(0, 0), -1);
+        x.back(2);
+        Check.due("the second one again", x.room(0, 0), 26);
+        Check.due("it is put in", x.catches(0, 0), 0);
     }
 
     private static void firstHour() {
@@ -234,6 +253,7 @@ public final class EdgesTest {
         Check.due("dips", x.found(0, 0, 0, 5), 2);
         // k = -1 from -1: s = 0: 8 / 2; -1: 4; 1: 17 / 3; -2, -3: 4 and none; 2: 16 / 3; 3: 21 / 3
         Check.due("shift of -1: alike, nearest to 0", x.shift(0, 0, -1), 0);
+        Check.due("round of -1 and 0", x.other(0, 0, 1), 1);
         put(x, 0, 0, 3);
         // s = 0: 7 / 2; -1: 3 alone
         Check.due("shift of -1: the first HOUR alone", x.shift(0, 0, -1), -1);
