@@ -91,7 +91,8 @@ public final class DimStars {
     private final Look look = new Look();
     private final Finder finder = new Finder();
     private final Signs signs = new Signs();
-    private final Finding spare = new Finding();
+    private final Finding nothing = new Finding();
+    private final Finding secondFound = new Finding();
     private final Finding[] ofStars = new Finding[TEXTS * STARS * WAYS];
     private final Finding[] ofWorlds = new Finding[TEXTS * WORLDS];
     /** Findings rest on ROWS, WIDE, masks and ORDER: what changes these makes all older ones stale. */
@@ -440,8 +441,8 @@ public final class DimStars {
         }
         look.see(sky, star, AS_IT_IS);
         look.dropDips(found.beat, found.longs, found.first);
-        finder.find(look, told, spare);
-        return spare.part(what, told.line);
+        finder.find(look, told, secondFound);
+        return secondFound.part(what, told.line);
     }
 
     public int next(int search, int star, int hour) {
@@ -693,9 +694,13 @@ public final class DimStars {
 
     /** FOUND in the ROW of a STAR by a WAY: as it was found last if nothing has changed since. */
     private Finding findingOf(int search, int star, int way) {
-        Finding found = knownOf(search, star, way);
         Text told = searchAt(search);
-        if (found.age != age && told != null) {
+        int place = placeOf(search, star, way);
+        if (told == null || place == NONE) {
+            return nothing;
+        }
+        Finding found = keptAt(ofStars, place);
+        if (found.age != age) {
             look.see(sky, star, way);
             finder.find(look, told, found);
             found.age = age;
@@ -709,10 +714,16 @@ public final class DimStars {
         }
     }
 
-    /** What is kept for a STAR; findingOf or findAll bring it up to date. */
+    /** What findingOf or findAll, which go before it, have found of a STAR. */
     private Finding knownOf(int search, int star, int way) {
+        int place = placeOf(search, star, way);
+        Finding found = place == NONE ? null : ofStars[place];
+        return found == null ? nothing : found;
+    }
+
+    private static int placeOf(int search, int star, int way) {
         int place = (search * STARS + star) * WAYS + way;
-        return place < 0 || place >= ofStars.length ? spare : keptAt(ofStars, place);
+        return place < 0 || place >= TEXTS * STARS * WAYS ? NONE : place;
     }
 
     private static Finding keptAt(Finding[] kept, int place) {
@@ -726,11 +737,13 @@ public final class DimStars {
 
     /** FOUND in the ROW of its STAR with a WORLD that is PUT IN. */
     private Finding findingWith(int search, int world) {
-        int place = search * WORLDS + world;
-        Finding found = place < 0 || place >= ofWorlds.length ? spare : keptAt(ofWorlds, place);
         Text told = searchAt(search);
         World put = sky.worldAt(world);
-        if (found.age != age && told != null && put != null) {
+        if (told == null || put == null || !isWithin(world, 0, WORLDS - 1)) {
+            return nothing;
+        }
+        Finding found = keptAt(ofWorlds, search * WORLDS + world);
+        if (found.age != age) {
             look.see(sky, put.star, AS_IT_IS);
             look.addWorld(put);
             finder.find(look, told, found);
@@ -872,11 +885,12 @@ public final class DimStars {
         /** The mean of the ROW, downwards; 0 without numbers, when nobody asks for it. */
         private long mean() {
             long together = 0;
+            long many = 0;
             for (int hour = 0; hour < HOURS; hour++) {
                 together += row[hour] == NOTHING ? 0 : row[hour];
+                many += row[hour] == NOTHING ? 0 : 1;
             }
-            int many = numbers();
-            return many == 0 ? 0 : Math.floorDiv(together, (long) many);
+            return many == 0 ? 0 : Math.floorDiv(together, many);
         }
     }
 

@@ -1,4 +1,6 @@
 import java.io.IOException;
+import java.io.PrintWriter;
+import java.io.StringWriter;
 import java.lang.management.ManagementFactory;
 import java.lang.reflect.Constructor;
 import java.lang.reflect.Field;
@@ -8,10 +10,15 @@ import java.nio.file.Files;
 import java.nio.file.Path;
 import java.util.ArrayList;
 import java.util.Arrays;
+import java.util.HashMap;
+import java.util.HashSet;
 import java.util.List;
+import java.util.Map;
+import java.util.Set;
 import java.util.TreeSet;
 import java.util.regex.Matcher;
 import java.util.regex.Pattern;
+import java.util.spi.ToolProvider;
 
 /** What can be seen from outside of the rules for the program's Java: its face, its words, its room. */
 public final class LanguageTest {
@@ -25,6 +32,7 @@ public final class LanguageTest {
         classes();
         words(lines);
         lengths(lines);
+        depth();
         room();
         Check.end();
     }
@@ -124,6 +132,57 @@ public final class LanguageTest {
                 start = -1;
             }
         }
+    }
+
+    /** Calls go at most eight deep, those that come back to themselves counted once. */
+    private static void depth() {
+        ToolProvider javap = ToolProvider.findFirst("javap").orElse(null);
+        if (javap == null) {
+            System.out.println("no javap here: the depth of calls is not looked at");
+            return;
+        }
+        Map<String, Set<String>> calls = new HashMap<>();
+        for (Class<?> c : all()) {
+            StringWriter told = new StringWriter();
+            javap.run(new PrintWriter(told), new PrintWriter(System.err), "-c", "-p", "-cp",
+                System.getProperty("java.class.path"), c.getName());
+            addCalls(c.getName(), told.toString(), calls);
+        }
+        Check.due("all methods are there", calls.size() > 100, true);
+        for (Method m : DimStars.class.getDeclaredMethods()) {
+            if (Modifier.isPublic(m.getModifiers())) {
+                Check.due("eight deep at most: " + m, deepest("DimStars." + m.getName(), calls, new HashSet<>()) <= 8, true);
+            }
+        }
+    }
+
+    private static void addCalls(String name, String code, Map<String, Set<String>> calls) {
+        Pattern head = Pattern.compile("^  \\S.*?(\\w+)\\(.*\\);$");
+        Pattern call = Pattern.compile("invoke\\w+ .*// Method (\\S+):");
+        String from = "";
+        for (String line : code.split("\\R")) {
+            Matcher m = head.matcher(line);
+            Matcher c = call.matcher(line);
+            if (m.matches()) {
+                from = name + "." + m.group(1);
+                calls.putIfAbsent(from, new TreeSet<>());
+            } else if (c.find() && !c.group(1).startsWith("java")) {
+                String to = c.group(1).contains(".") ? c.group(1) : name + "." + c.group(1);
+                calls.get(from).add(to);
+            }
+        }
+    }
+
+    private static int deepest(String from, Map<String, Set<String>> calls, Set<String> open) {
+        int most = 0;
+        open.add(from);
+        for (String to : calls.getOrDefault(from, Set.of())) {
+            if (!open.contains(to)) {
+                most = Math.max(most, deepest(to, calls, open));
+            }
+        }
+        open.remove(from);
+        return most + 1;
     }
 
     /** The dearest calls of a run make next to nothing: the room holds some 7.3 million elements. */
