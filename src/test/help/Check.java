@@ -20,6 +20,11 @@ final class Check {
         due(call, got ? 1 : 0, want ? 1 : 0);
     }
 
+    /** How many answers were looked at so far. */
+    static int asked() {
+        return asked;
+    }
+
     /** Puts a text on the tape, which has to be empty. */
     static void tape(DimStars x, String text) {
         for (int i = 0; i < text.length(); i += 20) {

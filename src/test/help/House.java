@@ -192,11 +192,23 @@ final class House {
         Check.due(name + ": nothing happens", shownOf(x).equals(isFull ? ofFull() : ofSmall()), true);
     }
 
-    /** A call that asks alone: whatever it answers, later calls show nothing of it. */
-    static void asks(String name, boolean isFull, long refusal, Call call) {
-        DimStars x = isFull ? full() : small();
-        Check.due(name + " is taken", call.on(x) != refusal, true);
-        Check.due(name + ": asking changes nothing", shownOf(x).equals(isFull ? ofFull() : ofSmall()), true);
+    /** A call that asks alone: later calls show nothing of it, and asked again it answers the same. */
+    static void asks(String name, long refusal, Call call) {
+        DimStars x = small();
+        long answer = call.on(x);
+        Check.due(name + " is taken", answer != refusal, true);
+        Check.due(name + ": asking changes nothing", shownOf(x).equals(ofSmall()), true);
+        DimStars y = small();
+        for (int search = 0; search < 2; search++) {
+            for (int star = 0; star < 3; star++) {
+                y.found(search, star, 0, 0);
+                y.found(search, star, 1, 0);
+            }
+        }
+        y.at(2, 0, 1);
+        Check.due(name + " behind other questions", call.on(y), answer);
+        y.at(1, 0, 3);
+        Check.due(name + " once more", call.on(y), answer);
     }
 
     static void taken(String name, boolean isFull, long refusal, Call call) {

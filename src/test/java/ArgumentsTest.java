@@ -74,8 +74,8 @@ public final class ArgumentsTest {
     }
 
     private static void asking(String name, long refusal, int least, int most, House.OpenCall call) {
-        House.asks(name + " " + least, false, refusal, x -> call.on(x, least));
-        House.asks(name + " " + most, false, refusal, x -> call.on(x, most));
+        House.asks(name + " " + least, refusal, x -> call.on(x, least));
+        House.asks(name + " " + most, refusal, x -> call.on(x, most));
         outside(name, refusal, least, most, call);
     }
 
@@ -245,7 +245,7 @@ public final class ArgumentsTest {
         asking("bound: search", -1, 0, 1, (x, n) -> x.bound(n, 500));
         asking("bound: luck", -1, 1, 1000, (x, n) -> x.bound(0, n));
         asking("count", -1, 0, 7, (x, n) -> x.count(n));
-        House.asks("finest", false, -1, x -> x.finest());
+        House.asks("finest", -1, x -> x.finest());
     }
 
     private static void more() {

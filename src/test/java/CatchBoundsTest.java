@@ -181,8 +181,9 @@ public final class CatchBoundsTest {
         DimStars y = flat(1000);
         Check.search(y, "beat 2 20");
         for (int i = 0; i < 40; i++) {
-            y.world(0, i == 39 ? 300 : 7, 2, 1, 100, true);
+            y.world(0, i == 0 ? 300 : 7, 2, 1, 100, true);
         }
+        Check.due("the last one is CAUGHT", y.catches(0, 39), 1);
         Check.due("39 of 40, above", y.share(0, 0), 39);
         Check.due("39 of 40, below", y.share(0, 1), 40);
     }
@@ -278,9 +279,13 @@ public final class CatchBoundsTest {
         x.star(1, 0, 1);
         Check.law(x, "bright 1000");
         x.make(0, 1, 0, 0, 99);
-        x.world(1, 10, 9, 1, 100, true);
-        // PUT IN: HOURS 1 to 9 of ten IN, one of them 900: DEEP 11, SPREAD 900, 90 HOURS: SCORE 12
+        x.world(1, 10, 7, 3, 100, true);
+        // PUT IN: 9 HOURS of ten IN, three of them 900: DEEP 33, SPREAD 2100, 90 HOURS: SCORE 46
         Check.due("it is CAUGHT", x.catches(0, 0), 1);
+        Check.search(x, "beat 10 10;long 9 9;line 46");
+        Check.search(x, "beat 10 10;long 9 9;line 47");
+        Check.due("by line 46", x.catches(1, 0), 1);
+        Check.due("not by line 47", x.catches(2, 0), 0);
         int[][] weights = {{999, 999}, {998, 999}, {999, 998}, {0, 999}, {999, 0}, {0, 0}};
         int[][] due = {{0, 999}, {102, 998}, {0, 998}, {102, 0}, {0, 0}, {0, 0}};
         for (int i = 0; i < weights.length; i++) {

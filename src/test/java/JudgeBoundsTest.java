@@ -90,6 +90,44 @@ public final class JudgeBoundsTest {
         }
         y.resize(0, 999);
         Check.due("size as it is now", y.weight(0, 0, 0, 2), 999);
+        weightsBySigns();
+    }
+
+    /** Two STARS alike but that each odd DIP of the first has 40 less and its last one comes two HOURS late. */
+    private static DimStars withSigns() {
+        DimStars x = new DimStars();
+        Check.law(x, "bright 1000");
+        Check.search(x, "beat 20 20;long 4 4");
+        for (int star = 0; star < 2; star++) {
+            x.star(1, 0, 1);
+            x.make(0, star, 0, 0, 79);
+            for (int k = 0; k < 4; k++) {
+                put(x, star, 5 + 20 * k, 800, 750, 750, 800);
+            }
+        }
+        put(x, 0, 25, 760, 710, 710, 760);
+        put(x, 0, 65, 1000, 1000, 760, 710, 710, 760);
+        Check.sorter(x, "world odd;pair shape;spot same;glass late;chance odd-shape");
+        return x;
+    }
+
+    /** odd, shape, same and late, each another number, by an object that was not asked for them before. */
+    private static void weightsBySigns() {
+        DimStars x = withSigns();
+        Check.due("first", x.found(0, 0, 0, 2), 5);
+        Check.due("same", x.sign(0, 0, 4), 1);
+        Check.due("late", x.sign(0, 0, 5), 2);
+        int odd = x.sign(0, 0, 2);
+        int shape = x.sign(0, 0, 3);
+        Check.due("all are apart", odd > 2 && shape > 2 && odd != shape, true);
+        int[] due = {odd, shape, 1, 2, Math.max(0, odd - shape)};
+        // the other STAR: shape is 50, all else alike
+        int[] ofOther = {0, 50, 1, 0, 0};
+        DimStars y = withSigns();
+        for (int sort = 0; sort < 5; sort++) {
+            Check.due("signs, " + sort, y.weight(0, 0, 0, sort), due[sort]);
+            Check.due("signs of the other, " + sort, y.weight(0, 0, 1, sort), ofOther[sort]);
+        }
     }
 
     private static void sortedOfSeveral() {
@@ -372,6 +410,42 @@ public final class JudgeBoundsTest {
         x.row(0, 3, 9);
         x.back(0);
         Check.due("an IMAGE made again is the later one", x.at(0, 3, 0), 1);
+        imagesOfOthers();
+    }
+
+    /** The same numbers may stand for others in another IMAGE. */
+    private static void imagesOfOthers() {
+        DimStars x = new DimStars();
+        Check.law(x, "bright cell*100+1000 if hour>0;bright 0");
+        Check.search(x, "beat 50 50;long 1 1;least 1");
+        Check.sorter(x, "world 1");
+        x.image(0);
+        int[] cells = {3, 5};
+        int[] lucks = {100, 200};
+        for (int i = 0; i < 2; i++) {
+            x.back(0);
+            x.star(10 + i, cells[i], lucks[i]);
+            x.make(0, 0, 0, 0, 9);
+            x.world(0, 50, i, 1, 900, true);
+            x.candidate(0, 1 + i, 10 + i);
+            x.mask(cells[0], 1, i * 30000);
+            x.mask(cells[1], 1, i * 30000);
+            x.feed(0x6c696e65, i == 0 ? 0x20312020 : 0x20392121, 0x20202020, 0x20202020, 0x20202020);
+            x.image(1 + i);
+        }
+        for (int i = 0; i < 2; i++) {
+            Check.due("back to " + (1 + i), x.back(1 + i), 1);
+            Check.due("ROW by its cell", x.at(0, 1, 0), 1000 + 100 * cells[i]);
+            x.make(0, 0, 0, 2, 2);
+            Check.due("its cell", x.at(0, 2, 0), 1000 + 100 * cells[i]);
+            Check.due("MASKED by so much", x.at(0, 0, 4), i == 0 ? NOTHING : 0);
+            Check.due("its LUCK", x.truly(0, 0), 1000000 / lucks[i]);
+            Check.due("its WORLD", x.room(0, 0), i + 1);
+            Check.due("its CANDIDATE's nights", x.nights(1, 0), i == 0 ? 1 : 0);
+            Check.due("its CANDIDATE's worth", x.nights(2, 1), 10 + i);
+            Check.due("its size", x.resize(0, 1), 10 + i);
+            Check.due("its TAPE", x.text(1), i == 0 ? 1 : -2 - (1 + 8 * 6));
+        }
     }
 
     private static void backRefused() {
@@ -416,11 +490,11 @@ public final class JudgeBoundsTest {
         DimStars x = new DimStars();
         x.star(1, 0, 1);
         Check.search(x, "beat 10 10;long 1 1;line 4");
-        // without HOURS 3 and 13: 9 and 5: HOUR 6 is 5, HOUR 16 is 5
-        put(x, 0, 0, 9, 9, 9, 1, 9, 9, 5, 9, 9, 9, 9, 9, 9, 1, 9, 9, 5, 9, 9, 9);
+        // without HOURS 3 and 13 those behind them, 4 and 14, are lowest
+        put(x, 0, 0, 9, 9, 9, 1, 5, 9, 9, 9, 9, 9, 9, 9, 9, 1, 5, 9, 9, 9, 9, 9);
         Check.due("first", x.found(0, 0, 0, 2), 3);
         // 18 numbers, two of them 5: SPREAD 16 * 2 * 16 / 324 = 1; DEEP 4; SCORE 16 * 2
-        long[] due = {10, 1, 6, 4, 32, 2, 1};
+        long[] due = {10, 1, 4, 4, 32, 2, 1};
         for (int what = 0; what < 7; what++) {
             Check.due("SECOND " + what, x.second(0, 0, what), due[what]);
         }
@@ -432,9 +506,24 @@ public final class JudgeBoundsTest {
         Check.due("but FOUND", x.second(2, 0, 4), 32);
         Check.search(x, "beat 10 10;long 1 1;least 2");
         Check.due("as many DIPS as least", x.second(3, 0, 5), 2);
-        x.row(0, 16, NOTHING);
+        x.row(0, 14, NOTHING);
         Check.due("one DIP is too few", x.second(3, 0, 5), -1);
         Check.due("but enough without least", x.second(0, 0, 5), 1);
+        // those before them, 2 and 12
+        put(x, 0, 2, 5, 1, 9);
+        put(x, 0, 12, 5, 1, 9);
+        Check.due("HOURS 2 and 12", x.second(0, 0, 2), 2);
+        // what was FOUND has first 199: HOURS -1, 0 and 199, 200
+        DimStars y = new DimStars();
+        y.star(1, 0, 1);
+        Check.search(y, "beat 200 200;long 2 2");
+        put(y, 0, 0, 0, 5, 9, 9, 5);
+        put(y, 0, 599, 0);
+        put(y, 0, 199, 0, 0, 9);
+        Check.due("first", y.found(0, 0, 0, 2), 199);
+        // left: 5, 9, 9, 5 at 1 to 4 and 9 at 201: HOURS 3 and 4: 7 and 23 / 3; HOURS 4 and 5: 5 and 8; HOURS 0 and 1: 7 and 7
+        Check.due("HOURS 4 and 5", y.second(0, 0, 2), 4);
+        Check.due("its DEEP", y.second(0, 0, 3), 3);
     }
 
     private static void nextDips() {
@@ -549,6 +638,14 @@ public final class JudgeBoundsTest {
         Check.due("TWICE", y.alias(0, 0, 1), 4);
         Check.due("HALF", y.alias(0, 0, 2), 4);
         Check.due("TWICE goes before HALF", y.alias(0, 0, 0), 1);
+        // beat 20 and first 13 of a WORLD with beat 10 and first 3: HALF is better, its first is 13 mod 10
+        DimStars z = dipping("world 1");
+        z.row(0, 3, NOTHING);
+        z.row(0, 4, NOTHING);
+        Check.search(z, "beat 20 20;long 2 2");
+        Check.due("first", z.found(1, 0, 0, 2), 13);
+        Check.due("HALF is the greatest", z.alias(1, 0, 0), 2);
+        Check.due("its SCORE", z.alias(1, 0, 2), z.tried(0, 0, 10, 2, 3, 4));
         Check.due("what 3", y.alias(0, 0, 3), -1);
         Check.due("what -1", y.alias(0, 0, -1), -1);
         y.star(1, 0, 1);
@@ -571,7 +668,7 @@ public final class JudgeBoundsTest {
     private static void radiusAtTheLimit() {
         // DEEP * size * size by 100000: 90 * 100 * 100 is 9, 89.. is less
         int[][] due = {{90, 100, 3}, {89, 100, 2}, {91, 100, 3}, {160, 100, 4}, {159, 100, 3}, {10, 100, 1}, {9, 100, 0}, {1, 1, 0},
-            {1, 316, 0}, {1, 317, 1}, {60000, 999, 773}, {60000, 1, 0}, {1, 999, 3}, {100, 999, 31}};
+            {1, 316, 0}, {1, 317, 1}, {60000, 999, 773}, {60000, 1, 0}, {1, 999, 3}, {100, 999, 31}, {1002, 999, 99}, {1003, 999, 100}};
         for (int[] d : due) {
             DimStars x = deep(d[0]);
             x.resize(0, d[1]);

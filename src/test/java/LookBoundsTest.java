@@ -137,6 +137,10 @@ public final class LookBoundsTest {
                 Check.due("clean, ROW " + i + ", HOUR " + hour, x.at(0, hour, 3), due[i][hour]);
             }
         }
+        DimStars z = oneStar(0, NOTHING, 5);
+        z.row(0, 598, 5);
+        Check.due("nothing at the first HOUR", z.at(0, 0, 3), NOTHING);
+        Check.due("nothing at the last HOUR", z.at(0, 599, 3), NOTHING);
         DimStars y = oneStar(0, 5, NOTHING, 7);
         Check.due("nothing stays nothing", y.at(0, 1, 3), NOTHING);
         Check.due("nothing does not count", y.at(0, 0, 3), -1);
@@ -275,6 +279,25 @@ public final class LookBoundsTest {
         Check.due("order(22)", x.order(22), 1);
         // 3201
         Check.due("3201", x.at(0, 300, 5) * 100 + x.at(0, 450, 5), 1011);
+        allOrders();
+    }
+
+    private static void allOrders() {
+        DimStars x = new DimStars();
+        x.star(1, 0, 1);
+        for (int season = 0; season < 4; season++) {
+            x.row(0, season * 150 + 70, season);
+        }
+        int[] due = {123, 132, 213, 231, 312, 321, 1023, 1032, 1203, 1230, 1302, 1320,
+            2013, 2031, 2103, 2130, 2301, 2310, 3012, 3021, 3102, 3120, 3201, 3210};
+        for (int n = 0; n < 24; n++) {
+            Check.due("order(" + n + ")", x.order(n), Math.max(0, n - 1));
+            int told = 0;
+            for (int season = 0; season < 4; season++) {
+                told = told * 10 + x.at(0, season * 150 + 70, 5);
+            }
+            Check.due("ORDER " + n, told, due[n]);
+        }
     }
 
     /** WAYS look at what is there when it is asked. */
@@ -292,6 +315,42 @@ public final class LookBoundsTest {
         Check.due("clean", x.at(0, 1, 3), 5);
         x.row(0, 2, 2);
         Check.due("clean with another number", x.at(0, 1, 3), 6);
+        foundAsTheyAre();
+    }
+
+    private static void foundAsTheyAre() {
+        DimStars x = new DimStars();
+        x.star(1, 0, 1);
+        x.world(0, 7, 2, 1, 400, false);
+        Check.law(x, "bright 1000");
+        x.make(0, 0, 0, 0, 99);
+        Check.search(x, "beat 7 7;long 1 1");
+        Check.due("clean", x.found(0, 0, 3, 2), 2);
+        x.wide(0);
+        Check.due("clean of itself alone", x.found(0, 0, 3, 2), -1);
+        Check.due("in ORDER", x.found(0, 0, 5, 2), 2);
+        x.order(6);
+        // 1023: HOUR 2 is at 152 now
+        Check.due("in another ORDER", x.found(0, 0, 5, 2), 5);
+        Check.due("not MASKED", x.found(0, 0, 4, 2), 2);
+        x.mask(0, 1, 0);
+        Check.due("MASKED", x.found(0, 0, 4, 2), -1);
+        x.image(0);
+        x.wide(20);
+        x.order(0);
+        x.mask(0, 0, 0);
+        for (int way = 3; way < 6; way++) {
+            Check.due("WAY " + way + " as it is", x.found(0, 0, way, 2), 2);
+        }
+        x.back(0);
+        int[] due = {-1, -1, 5};
+        for (int way = 3; way < 6; way++) {
+            Check.due("WAY " + way + " as it was", x.found(0, 0, way, 2), due[way - 3]);
+        }
+        x.row(0, 2, 1000);
+        x.row(0, 9, 1000);
+        x.make(0, 0, 0, 0, 20);
+        Check.due("as it is", x.found(0, 0, 0, 5), 14);
     }
 
     private static void inAndOut() {
@@ -467,6 +526,19 @@ public final class LookBoundsTest {
         Check.due("its DIPS", y.found(0, 0, 0, 5), 2);
         y.row(0, 12, NOTHING);
         Check.due("no other one has two DIPS and is deep", y.found(0, 0, 0, 2), -1);
+        mostDips();
+    }
+
+    /** Of beat 7 there are 85 in 600 HOURS, and one more at each end. */
+    private static void mostDips() {
+        DimStars x = new DimStars();
+        x.star(1, 0, 1);
+        Check.law(x, "bright 0 if hour-hour/7*7=0;bright 0 if hour-hour/7*7>3;bright 9");
+        x.make(0, 0, 0, 0, 599);
+        for (int least = 85; least <= 88; least++) {
+            Check.search(x, "beat 7 7;long 4 4;least " + least);
+            Check.due("87 DIPS, least " + least, x.found(least - 85, 0, 0, 5), least <= 87 ? 87 : -1);
+        }
     }
 
     private static void ofSeveral() {

@@ -667,30 +667,33 @@ public final class PromisesTest {
         }
         Check.due("long", x.found(0, 0, 0, 1), 4);
         Check.due("shape: 205 less 110", x.sign(0, 0, 3), 95);
-        // one DIP alone, with even k: no odd ones
+        oneDipAlone();
+        same();
+    }
+
+    private static void oneDipAlone() {
+        DimStars x = new DimStars();
+        x.star(1, 0, 1);
         Check.search(x, "beat 200 200; long 3 3");
-        for (int h = 0; h < 600; h++) {
-            x.row(0, h, -100000);
-        }
+        // with even k: no odd ones
         put(x, 0, 50, 9, 9, 9, 1, 2, 1, 9, 9);
-        Check.due("first", x.found(1, 0, 0, 2), 53);
-        Check.due("even, 9 - 4/3", x.sign(1, 0, 0), 7);
-        Check.due("no odd one", x.sign(1, 0, 1), -100000);
-        Check.due("odd is 0 then", x.sign(1, 0, 2), 0);
-        Check.due("shape: 7 less 8", x.sign(1, 0, 3), -1);
+        Check.due("first", x.found(0, 0, 0, 2), 53);
+        Check.due("even, 9 - 4/3", x.sign(0, 0, 0), 7);
+        Check.due("no odd one", x.sign(0, 0, 1), -100000);
+        Check.due("odd is 0 then", x.sign(0, 0, 2), 0);
+        Check.due("shape: 7 less 8", x.sign(0, 0, 3), -1);
         x.row(0, 54, -100000);
-        Check.due("no middle", x.sign(1, 0, 3), 0);
+        Check.due("no middle", x.sign(0, 0, 3), 0);
         // a DIP that hangs over the begin has k = -1: odd
         for (int h = 50; h < 58; h++) {
             x.row(0, h, -100000);
         }
         put(x, 0, 0, 1, 9, 9, 9);
         x.row(0, 199, 5);
-        Check.due("first at the end of the beat", x.found(1, 0, 0, 2), 198);
-        Check.due("dips", x.found(1, 0, 0, 5), 2);
-        Check.due("k = 0 is even", x.sign(1, 0, 0), 4);
-        Check.due("k = -1 is odd", x.sign(1, 0, 1), 8);
-        same();
+        Check.due("first at the end of the beat", x.found(0, 0, 0, 2), 198);
+        Check.due("dips", x.found(0, 0, 0, 5), 2);
+        Check.due("k = 0 is even", x.sign(0, 0, 0), 4);
+        Check.due("k = -1 is odd", x.sign(0, 0, 1), 8);
     }
 
     private static void same() {

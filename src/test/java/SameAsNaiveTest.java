@@ -2,6 +2,9 @@ import java.util.Random;
 
 /** Draws runs of calls and compares every answer with that of the naive writing of the document. */
 public final class SameAsNaiveTest {
+    /** An object is promised for 512 calls, of which one step takes some twenty at most. */
+    private static final int CALLS = 490;
+
     private final Random draw;
     private final String name;
     private DimStars x = new DimStars();
@@ -13,7 +16,7 @@ public final class SameAsNaiveTest {
     }
 
     public static void main(String[] args) {
-        int runs = args.length > 0 ? Integer.parseInt(args[0]) : 60;
+        int runs = args.length > 0 ? Integer.parseInt(args[0]) : 120;
         int from = args.length > 1 ? Integer.parseInt(args[1]) : 0;
         for (int seed = from; seed < from + runs; seed++) {
             new SameAsNaiveTest(seed).run();
@@ -59,6 +62,7 @@ public final class SameAsNaiveTest {
     }
 
     private void run() {
+        int begin = Check.asked();
         int stars = 1 + upTo(5);
         for (int i = 0; i < stars; i++) {
             star(1 + upTo(998), upTo(2), 1 + upTo(999));
@@ -76,7 +80,7 @@ public final class SameAsNaiveTest {
             make(0, i, draw.nextInt() & Integer.MAX_VALUE, from, from + upTo(599 - from));
         }
         int calls = 150 + upTo(150);
-        for (int i = 0; i < calls; i++) {
+        for (int i = 0; i < calls && Check.asked() - begin < CALLS; i++) {
             step();
         }
     }

@@ -19,6 +19,7 @@ public final class SignBoundsTest {
         shiftsExactly();
         shiftsOverTheEnds();
         shiftOfK();
+        firstAndLastDips();
         nothingFound();
         lateOfOne();
         lateAtMost();
@@ -88,6 +89,10 @@ public final class SignBoundsTest {
         put(x, 0, 25, 12);
         Check.due("still FOUND so", x.found(0, 0, 0, 2), 5);
         signs("ODD below 0", x, 9, -3, 12);
+        // exactly 9, with more HOURS IN than OUT
+        DimStars y = withSearch("beat 3 3;long 2 2");
+        put(y, 0, 0, 0, 0, 9, 0, 0, 9, 0, 0, 9);
+        signs("exactly", y, 9, 9, 0);
     }
 
     /** One DIP of so many HOURS: OUT 0, IN -1000 - i * i * 3 at the i-th of its HOURS. */
@@ -166,6 +171,10 @@ public final class SignBoundsTest {
         Check.search(x, "beat 10 10");
         Check.due("eleven others", x.sign(0, 0, 4), 11);
         Check.due("eleven others of the last", x.sign(0, 11, 4), 11);
+        DimStars z = lowAt(3, 3, 4, 3);
+        Check.search(z, "beat 10 10");
+        Check.sorter(z, "world same");
+        Check.due("same in a SORTER, asked first of all", z.weight(0, 0, 0, 0), 2);
         DimStars y = lowAt(5);
         Check.search(y, "beat 10 10");
         Check.due("no others", y.sign(0, 0, 4), 0);
@@ -275,6 +284,38 @@ public final class SignBoundsTest {
         Check.due("none", y.shift(0, 0, 4), -100);
         y.row(0, 81, 10);
         Check.due("one number 4 before k = 4", y.shift(0, 0, 4), -100);
+    }
+
+    /** DIPS -1 and, of beat 2, 299: the first and the last there may be. */
+    private static void firstAndLastDips() {
+        DimStars x = withSearch("beat 10 10;long 3 3");
+        // first 9: k = -1 has HOURS 0 and 1, k = 0 has 9, 10, 11
+        put(x, 0, 0, 3, 4, 9, 9, 9, 9, 9, 9, 9, 1, 1, 1, 9, 9, 9);
+        Check.due("first", x.found(0, 0, 0, 2), 9);
+        Check.due("k = -1: HOUR 0 alone", x.shift(0, 0, -1), -1);
+        Check.due("k = 0", x.shift(0, 0, 0), 0);
+        Check.due("late", x.sign(0, 0, 5), 1);
+        Check.due("OTHER", x.other(0, 0, 0), 1);
+        Check.due("ROUND", x.other(0, 0, 1), -1);
+        put(x, 0, 0, 4);
+        Check.due("k = -1: alike", x.shift(0, 0, -1), 0);
+        Check.due("late of alike ones", x.sign(0, 0, 5), 0);
+        Check.due("ROUND of -1 and 0", x.other(0, 0, 1), 1);
+        DimStars y = withSearch("beat 2 2;long 1 1");
+        Check.law(y, "bright 100*hour-hour/2*200");
+        y.make(0, 0, 0, 0, 599);
+        Check.due("HOURS of 0 and 100", y.at(0, 598, 0) * 1000 + y.at(0, 597, 0), 100);
+        Check.due("late of all alike", y.sign(0, 0, 5), 0);
+        Check.due("ROUND of all alike", y.other(0, 0, 1), 1);
+        y.row(0, 599, -1);
+        Check.due("first of beat 2", y.found(0, 0, 0, 2), 0);
+        // 598 and 596 have HOUR 599 one and three behind them
+        Check.due("k = 299", y.shift(0, 0, 299), 1);
+        Check.due("k = 298", y.shift(0, 0, 298), 3);
+        Check.due("k = 297", y.shift(0, 0, 297), 0);
+        Check.due("late by the last ones", y.sign(0, 0, 5), 3);
+        Check.due("OTHER of the last ones", y.other(0, 0, 0), 2);
+        Check.due("ROUND of the last ones", y.other(0, 0, 1), -1);
     }
 
     private static void nothingFound() {

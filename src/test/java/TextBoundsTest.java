@@ -17,6 +17,7 @@ public final class TextBoundsTest {
 
     public static void main(String[] args) {
         bytes();
+        faultsLeaveNothing();
         clauses();
         onceEach();
         digits();
@@ -101,6 +102,50 @@ public final class TextBoundsTest {
         Check.due("a NUMBER is cut", x.text(0), 0);
         x.make(0, 0, 0, 0, 0);
         Check.due("bright 1", x.at(0, 0, 0), 1);
+        Check.tape(x, "bright sizes");
+        Check.due("end(11)", x.end(11), 11);
+        Check.due("a WORD is cut", x.text(0), 1);
+        x.make(1, 0, 0, 1, 1);
+        Check.due("bright size", x.at(0, 1, 0), 1);
+        Check.tape(x, "bright 1 if 1<=1");
+        Check.due("end(14)", x.end(14), 14);
+        Check.due("a SIGN is cut, and what is behind it", x.text(0), -2 - (1 + 8 * 14));
+        made(blank(389) + "bright cell", 6);
+        fault(LAW, blank(390) + "bright cel", 397, UNFIT);
+        fault(LAW, blank(396) + "brig", 396, UNFIT);
+        fault(LAW, blank(387) + "bright 1 if 1", 400, UNFIT);
+        fault(LAW, blank(386) + "bright 1 if 1<", 400, UNFIT);
+    }
+
+    /** Of a text with a FAULT nothing is left in the next one. */
+    private static void faultsLeaveNothing() {
+        DimStars x = dips(10, 3, 2, "beat 10 10;long 2 2");
+        Check.due("noise, then a FAULT", Check.law(x, "noise 500;bright 7 if 1=1;!"), -2 - (1 + 8 * 26));
+        Check.due("without noise", Check.law(x, "bright hour"), 1);
+        Check.due("bright, then a FAULT", Check.law(x, "bright 7;!"), -2 - (1 + 8 * 9));
+        Check.due("noise alone", Check.law(x, "noise 0"), 2);
+        Check.due("all NUMBERS, then a FAULT", Check.search(x, "beat 150 160;long 7 8;least 50;line 9999;!"), -2 - (1 + 8 * 41));
+        Check.due("without NUMBERS", Check.search(x, "line 0"), 1);
+        Check.due("all NUMBERS, then a FAULT again", Check.search(x, "beat 150 160;long 7 8;least 50;line 9999;!"), -2 - (1 + 8 * 41));
+        Check.due("without a line", Check.search(x, "least 1"), 2);
+        Check.due("weights, then a FAULT", Check.sorter(x, "world 5;pair 6;!"), -2 - (1 + 8 * 15));
+        for (int i = 0; i < 12; i++) {
+            Check.due("many VALUES, then a FAULT", Check.sorter(x, "world 1" + "+1".repeat(59) + "!"), -2 - (1 + 8 * 125));
+        }
+        Check.due("one weight", Check.sorter(x, "spot 1" + "+1".repeat(59)), 0);
+        for (int search = 0; search < 3; search++) {
+            Check.due("FOUND by " + search, x.found(search, 0, 0, 0), 10);
+            Check.due("long by " + search, x.found(search, 0, 0, 1), 2);
+            Check.due("SEEN by " + search, x.found(search, 0, 0, 6), 1);
+        }
+        int[] due = {0, 0, 60, 0, 0};
+        for (int sort = 0; sort < 5; sort++) {
+            Check.due("weight of " + sort, x.weight(0, 0, 0, sort), due[sort]);
+        }
+        x.make(1, 0, 5, 99, 99);
+        x.make(2, 0, 5, 98, 98);
+        Check.due("no noise", x.at(0, 99, 0), 99);
+        Check.due("no bright", x.at(0, 98, 0), 0);
     }
 
     private static void clauses() {
@@ -408,6 +453,9 @@ public final class TextBoundsTest {
             fault(LAW, "bright 1 if " + sign[i] + "1", 12, UNFIT);
             fault(LAW, "bright 1 if 1" + sign[i] + "1" + sign[i] + "1", 14 + sign[i].length(), UNFIT);
         }
+        fault(LAW, "bright 1 if 1 2", 14, UNFIT);
+        fault(LAW, "bright 1 if 1 hour", 14, UNFIT);
+        fault(LAW, "bright 1 if 1 and 1=1", 14, UNFIT);
         fault(LAW, "bright 1 if 1==1", 14, UNFIT);
         fault(LAW, "bright 1 if 1=<1", 14, UNFIT);
         fault(LAW, "bright 1 if 1=>1", 14, UNFIT);
@@ -427,6 +475,9 @@ public final class TextBoundsTest {
         made("bright 1 if not 1=1 and 1=2", 0);
         made("bright 1 if not [1=1 and 1=2]", 1);
         made("bright 1 if 1=2 or 1=2 or 1=1", 1);
+        made("bright 1 if 1=2 or 1=1 or 1=2", 1);
+        made("bright 1 if 1=1 or 1=2 or 1=2", 1);
+        made("bright 1 if 1=2 and 1=1 and 1=1", 0);
         made("bright 1 if 1=1 and 1=1 and 1=2", 0);
         made("bright 1 if not not 1=1", 1);
         made("bright 2+3*4", 14);
