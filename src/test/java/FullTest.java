@@ -12,7 +12,7 @@ public final class FullTest {
         tape();
         tapeByOddLengths();
         images();
-        room();
+        textsStay();
         Check.end();
     }
 
@@ -243,7 +243,7 @@ public final class FullTest {
     }
 
     /** Texts stay when all else goes back; a number of the texts is not given twice. */
-    private static void room() {
+    private static void textsStay() {
         DimStars x = new DimStars();
         x.image(0);
         for (int i = 0; i < 6; i++) {

@@ -212,7 +212,7 @@ public final class LanguageTest {
         for (int i = 0; i < 12; i++) {
             x.make(0, i, i, 0, 599);
         }
-        for (int i = 0; i < 50; i++) {
+        for (int i = 0; i < 40; i++) {
             x.row(i % 12, i, i);
             x.truly(i % 6, i % 6);
             x.image(i % 4);
